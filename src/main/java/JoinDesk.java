@@ -25,9 +25,11 @@ public final class JoinDesk {
     private boolean prepared;
 
     public JoinDesk(int left, int right, int groups) {
-        this.left = new Table(roomFor(left));
-        this.right = new Table(roomFor(right));
-        this.cursor = new Cursor(this.left, this.right);
+        Table leftTable = new Table(roomFor(left));
+        Table rightTable = new Table(roomFor(right));
+        this.left = leftTable;
+        this.right = rightTable;
+        this.cursor = new Cursor(leftTable, rightTable);
         this.book = new GroupBook(roomFor(groups));
         this.prepared = false;
     }

@@ -193,6 +193,11 @@ public final class PromiseTest {
         early.add(true, 4, 4);
         early.prepare();
         due("a kind chosen before prepare()", () -> restOf(early), "4:0/-1");
+        JoinDesk lone = desk(keys(8, 2, 8, 8), keys(5, 2, 5, 9, 9), 1);
+        lone.kind(1);
+        due("lone left rows of one key", () -> restOf(lone), "2:1/1 8:0/-1 8:2/-1 8:3/-1");
+        lone.kind(2);
+        due("lone right rows of one key", () -> restOf(lone), "2:1/1 5:-1/0 5:-1/2 9:-1/3 9:-1/4");
     }
 
     private static void next() {
