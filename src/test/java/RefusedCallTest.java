@@ -12,10 +12,11 @@ public final class RefusedCallTest {
     private static final String SMALL = "JoinDesk(6, 6, 1)";
     /** Left keys sorted: 1 1 3 5 5; right ones: 1 2 5 5 7. Two groups, and room for one more row a table. */
     private static final List<String> ROWS = List.of("add(left, 5, 50)", "add(left, 1, 10)", "add(left, 3, 30)", "add(left, 5, 51)",
-            "add(left, 1, 11)", "add(right, 5, 500)", "add(right, 2, 20)", "add(right, 1, 100)", "add(right, 5, 501)", "add(right, 7, 70)");
+            "add(left, 1, 11)", "add(right, 5, 500)", "add(right, 2, 20)", "add(right, 1, 100)", "add(right, 5, 501)",
+            "add(right, 7, 70)");
     private static final String[] CHANCES = {"-1", "0", "1", "2", "3", "4", "5", "6", "MIN", "MAX"};
-    private static final String[] FACE = {"add", "kind", "next", "pair", "mark", "back", "seek", "rewind", "count", "rows", "groups",
-        "group", "sorted", "about"};
+    private static final String[] MAY_REFUSE = {"add", "kind", "next", "pair", "mark", "back", "seek", "rewind", "count", "rows",
+        "groups", "group", "sorted", "about"};
 
     private static int wrong = 0;
     private static int compared = 0;
@@ -38,6 +39,7 @@ public final class RefusedCallTest {
     private static Map<String, State> states() {
         Map<String, State> all = new LinkedHashMap<>();
         String full = "JoinDesk(5, 5, 2)";
+        String roomy = "JoinDesk(9, 9, 9)";
         all.put("new", state(SMALL, false));
         all.put("new, without any room", state("JoinDesk(0, 0, 0)", false));
         all.put("empty and PREPARED", state("JoinDesk(0, 0, 0)", false, "prepare()"));
@@ -48,13 +50,18 @@ public final class RefusedCallTest {
         all.put("at a pair, with a mark", state(SMALL, true, "prepare()", "next()", "mark()", "next()", "next()", "next()"));
         all.put("at a lone row, with a mark", state(SMALL, true, "kind(3)", "prepare()", "next()", "mark()", "next()", "next()"));
         all.put("between pairs, with a mark", state(SMALL, true, "prepare()", "seek(5)", "mark()", "rewind()", "seek(3)"));
-        all.put("behind the last pair", state(SMALL, true, "prepare()", "seek(5)", "next()", "next()", "next()", "next()", "mark()", "next()"));
+        all.put("behind the last pair", state(SMALL, true, "prepare()", "seek(5)", "next()", "next()", "next()", "next()",
+                "mark()", "next()"));
         all.put("full", state(full, true, "prepare()", "next()", "mark()", "next()"));
-        all.put("full and told", state(full, true, "kind(1)", "prepare()", "groups()", "next()", "next()", "next()", "mark()", "next()"));
+        all.put("full and told", state(full, true, "kind(1)", "prepare()", "groups()", "next()", "next()", "next()",
+                "mark()", "next()"));
         all.put("full, not PREPARED", state(full, true, "kind(3)"));
-        all.put("told, then a row came", state("JoinDesk(9, 9, 9)", true, "kind(3)", "prepare()", "groups()", "next()", "mark()", "add(left, 7, 7)"));
-        all.put("told, then PREPARED again", state("JoinDesk(9, 9, 9)", true, "prepare()", "groups()", "next()", "mark()", "prepare()", "next()"));
-        all.put("told, then the KIND changed", state("JoinDesk(9, 9, 9)", true, "prepare()", "groups()", "next()", "mark()", "kind(2)", "next()"));
+        all.put("told, then a row came", state(roomy, true, "kind(3)", "prepare()", "groups()", "next()",
+                "mark()", "add(left, 7, 7)"));
+        all.put("told, then PREPARED again", state(roomy, true, "prepare()", "groups()", "next()",
+                "mark()", "prepare()", "next()"));
+        all.put("told, then the KIND changed", state(roomy, true, "prepare()", "groups()", "next()",
+                "mark()", "kind(2)", "next()"));
         all.put("cleared", state(full, true, "kind(3)", "prepare()", "groups()", "next()", "mark()", "clear()"));
         return all;
     }
@@ -107,9 +114,9 @@ public final class RefusedCallTest {
     }
 
     private static List<String> freshWalk() {
-        return List.of("groups()", "group(1, 2)", "count(0)", "count(1)", "count(2)", "count(3)", "rows(left, lone)", "rows(right, lone)",
-                "add(left, 2, 8)", "add(left, 2, 8)", "add(right, 3, 8)", "add(right, 3, 8)", "about(4)", "prepare()", "back()", "rest()",
-                "about(0)", "groups()", "group(0, 2)");
+        return List.of("groups()", "group(1, 2)", "count(0)", "count(1)", "count(2)", "count(3)", "rows(left, lone)",
+                "rows(right, lone)", "add(left, 2, 8)", "add(left, 2, 8)", "add(right, 3, 8)", "add(right, 3, 8)", "about(4)",
+                "prepare()", "back()", "rest()", "about(0)", "groups()", "group(0, 2)");
     }
 
     private static List<String> answers(Script script, List<String> walk) {
@@ -137,7 +144,8 @@ public final class RefusedCallTest {
         for (int i = 0; i < want.size(); i++) {
             if (!got.get(i).equals(want.get(i))) {
                 wrong++;
-                System.out.println(name + ": " + call + " was refused (" + answer + "), yet then " + got.get(i) + ", due is " + want.get(i));
+                System.out.println(name + ": " + call + " was refused (" + answer + "), yet then " + got.get(i)
+                        + ", due is " + want.get(i));
                 return;
             }
         }
@@ -158,7 +166,7 @@ public final class RefusedCallTest {
                 }
             }
         }
-        for (String name : FACE) {
+        for (String name : MAY_REFUSE) {
             need(refusals.keySet().stream().anyMatch(r -> r.startsWith(name + " ")), name + " was refused somewhere");
         }
         need(refusals.containsKey("groups UOE"), "groups() was refused for want of room");
