@@ -86,6 +86,28 @@ public final class FaceTest {
         check(none.getType() == int.class && none.getInt(null) == -1, "NONE");
     }
 
+    private static void ownPrivateMethods() {
+        Set<String> seen = new TreeSet<>();
+        for (Method m : JoinDesk.class.getDeclaredMethods()) {
+            if (!m.isSynthetic()) {
+                check(seen.add(m.getName()), "rule 1: a private method has the name of a public one: " + m.getName());
+                check(m.getParameterCount() <= 7, "rule 11: seven parameters: " + m);
+            }
+        }
+    }
+
+    /** A method begins at a line that ends with an open brace, inside the class or a class inside it. */
+    private static void lengths(String text) {
+        Pattern methods = Pattern.compile("(?m)^( {4}| {8})(?! )[^\\n=]*\\)[^\\n;=]*\\{\\n((?:\\1 +[^\\n]*\\n|\\n)*)\\1\\}\\n");
+        Matcher found = methods.matcher(text);
+        int methodsSeen = 0;
+        while (found.find()) {
+            methodsSeen++;
+            check(found.group(2).lines().count() < 60, "rule 11: short methods: " + found.group().lines().findFirst().get());
+        }
+        check(methodsSeen > FACE.length, "the methods were found in the source");
+    }
+
     private static void classesInside() {
         Set<String> publicNames = Arrays.stream(JoinDesk.class.getMethods()).filter(m -> m.getDeclaringClass() == JoinDesk.class)
                 .map(Method::getName).collect(Collectors.toSet());
@@ -109,6 +131,7 @@ public final class FaceTest {
             Matcher found = Pattern.compile(out).matcher(code);
             check(!found.find(), "the source has " + out);
         }
+        lengths(text);
         check(text.chars().allMatch(c -> c < 256), "rule 3: characters 0 to 255");
         Matcher made = Pattern.compile("\\bnew (\\w+)").matcher(code.substring(code.indexOf("public int add")));
         Set<String> names = Set.of("int", "long", "Span", "Position", "IllegalStateException", "IllegalArgumentException",
@@ -120,6 +143,7 @@ public final class FaceTest {
 
     public static void main(String[] args) throws Exception {
         face();
+        ownPrivateMethods();
         classesInside();
         source();
         System.out.println(wrong == 0 ? "the face is as due" : wrong + " things are not as due");
